@@ -7,11 +7,11 @@ public final class AnsTables {
     private static final int SIGNS = 32;
     private static final int LEAST_LOG = 5;
     private static final int GREATEST_LOG = 12;
-    private static final int GREATEST_SIZE = 1 << GREATEST_LOG;
     private static final int ROW_LIMIT = 1000;
     private static final int COUNT_LIMIT = 1000000;
     private static final int OUT_LIMIT = 8000;
     private static final int READ_LIMIT = 65535;
+    private static final int SHORT_ROW = 256;
     private static final int MOST_LANES = 4;
 
     private static final int BYTES = 0;
@@ -32,7 +32,7 @@ public final class AnsTables {
     private final Reader reader;
     private final Octets octets;
     private final int[] tally;
-    private final int[] row;
+    private int[] row;
     private int rowLength;
     private int kind;
     private int laneCount;
@@ -45,7 +45,7 @@ public final class AnsTables {
         reader = new Reader();
         octets = new Octets();
         tally = new int[SIGNS];
-        row = new int[ROW_LIMIT];
+        row = new int[SHORT_ROW];
         kind = BYTES;
         laneCount = 1;
     }
@@ -54,6 +54,7 @@ public final class AnsTables {
         if (!isSign(sign)) {
             return BAD;
         }
+        row = withRoom(row, rowLength, ROW_LIMIT);
         if (rowLength >= row.length) {
             return FULL;
         }
@@ -260,6 +261,14 @@ public final class AnsTables {
         return sign >= 0 && sign < SIGNS;
     }
 
+    /** Most objects hold little: rows begin short, and are doubled when they are full. */
+    private static int[] withRoom(int[] values, int length, int limit) {
+        if (length < values.length || length >= limit) {
+            return values;
+        }
+        return Arrays.copyOf(values, Math.min(2 * length, limit));
+    }
+
     private static int bitLength(int number) {
         int bits = 0;
         for (int k = 0; k < 31; k++) {
@@ -281,7 +290,14 @@ public final class AnsTables {
         if (form == TABLE) {
             return 2L * size - 1;
         }
-        return form == WORDS ? Long.MAX_VALUE : (1L << 31) - 1;
+        return form == WORDS ? (1L << 63) - 1 : (1L << 31) - 1;
+    }
+
+    private static int stateWidth(int form) {
+        if (form == TABLE) {
+            return 2;
+        }
+        return form == WORDS ? 8 : 4;
     }
 
     /** LG of 1 .. SIZE, each reckoned once: normal() asks for thousands of them. */
@@ -310,7 +326,7 @@ public final class AnsTables {
             long lg = whole;
             for (int k = 0; k < 30; k++) {
                 x = x * x >> 30;
-                long bit = x >> 31;
+                int bit = (int) (x >> 31);
                 lg = 2 * lg + bit;
                 x >>= bit;
             }
@@ -328,16 +344,13 @@ public final class AnsTables {
         private final long[] gain = new long[SIGNS];
         private final int[] seen = new int[SIGNS];
         private boolean isSpread;
-        private final int[] signs;
-        private final int[] numbers;
-        private final int[] places;
+        private int[] signs = new int[0];
+        private int[] numbers = new int[0];
+        private int[] places = new int[0];
 
         Shares(int log) {
             this.log = log;
             size = 1 << log;
-            signs = new int[size];
-            numbers = new int[size];
-            places = new int[size];
         }
 
         void forget() {
@@ -454,8 +467,14 @@ public final class AnsTables {
         }
 
         void makeSpread() {
-            if (isSpread || size > signs.length) {
+            if (isSpread) {
                 return;
+            }
+            // Forms but the table never ask for SPREAD, and OUT may tell a greater LOG than before.
+            if (signs.length < size) {
+                signs = new int[size];
+                numbers = new int[size];
+                places = new int[size];
             }
             int step = size / 2 + size / 8 + 3;
             int place = 0;
@@ -499,7 +518,7 @@ public final class AnsTables {
 
     /** The bytes of OUT. */
     private static final class Octets {
-        private final int[] values = new int[OUT_LIMIT];
+        private int[] values = new int[SHORT_ROW];
         private int length;
         private int spareBits;
 
@@ -509,6 +528,7 @@ public final class AnsTables {
         }
 
         boolean append(int value) {
+            values = withRoom(values, length, OUT_LIMIT);
             if (length >= values.length) {
                 return false;
             }
@@ -558,11 +578,17 @@ public final class AnsTables {
      * gives the bits in the order of reading.
      */
     private static final class Pile {
-        private final int[] values = new int[OUT_LIMIT];
+        /** Form 3 puts out the most: two bytes for each of five bits. */
+        private static final int MOST_OF_A_SIGN = 10;
+        private int[] values = new int[SHORT_ROW];
         private int bits;
 
         void empty() {
             bits = 0;
+        }
+
+        void makeRoomForSign() {
+            values = withRoom(values, bits / 8 + MOST_OF_A_SIGN, OUT_LIMIT);
         }
 
         void pushOctet(int value) {
@@ -608,6 +634,7 @@ public final class AnsTables {
                 shares.makeSpread();
             }
             for (int i = Math.min(length, row.length) - 1; i >= 0; i--) {
+                pile.makeRoomForSign();
                 putSign(form, i & (laneCount - 1), row[i], shares);
             }
             out.restart();
@@ -689,18 +716,11 @@ public final class AnsTables {
         }
     }
 
-    private static int stateWidth(int form) {
-        if (form == TABLE) {
-            return 2;
-        }
-        return form == WORDS ? 8 : 4;
-    }
-
     /** Reads OUT by what OUT tells, and keeps what it read and the RULE that it saw broken. */
     private static final class Reader {
-        private final Shares shares = new Shares(GREATEST_LOG);
+        private final Shares shares = new Shares(LEAST_LOG);
         private final long[] states = new long[MOST_LANES];
-        private int[] signs = new int[ROW_LIMIT];
+        private int[] signs = new int[SHORT_ROW];
         private int length;
         private int broken;
         private int bytesRead;
@@ -806,10 +826,8 @@ public final class AnsTables {
         }
 
         private void keep(int sign) {
-            if (length >= signs.length) {
-                // The head may tell more signs than a row has, and a sign alone needs no bytes.
-                signs = Arrays.copyOf(signs, READ_LIMIT);
-            }
+            // The head may tell more signs than a row can have, and a sign alone needs no bytes.
+            signs = withRoom(signs, length, READ_LIMIT);
             if (length < signs.length) {
                 signs[length] = sign;
                 length++;
@@ -895,13 +913,12 @@ public final class AnsTables {
         private long nextNumber(Octets out, int width) {
             long number = 0;
             for (int k = 0; k < width; k++) {
-                int next = out.valueAt(bytesRead);
-                if (next < 0) {
+                if (bytesRead >= out.length || bytesRead >= out.values.length) {
                     broken = ENDS_EARLY;
                     return BAD;
                 }
+                number = number << 8 | out.values[bytesRead];
                 bytesRead++;
-                number = number << 8 | next;
             }
             return number;
         }
