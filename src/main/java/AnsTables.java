@@ -555,6 +555,7 @@ public final class AnsTables {
             }
         }
 
+        /** A TABLE is the only thing of bits in OUT, so what it leaves of its last byte stays 0. */
         void appendBits(int value, int width) {
             for (int k = width - 1; k >= 0; k--) {
                 if (spareBits == 0) {
@@ -566,10 +567,6 @@ public final class AnsTables {
                     values[length - 1] |= (value >> k & 1) << spareBits;
                 }
             }
-        }
-
-        void endBits() {
-            spareBits = 0;
         }
     }
 
@@ -659,7 +656,6 @@ public final class AnsTables {
                 out.appendBits(shares.shareOf(sign), bitLength(left));
                 left -= shares.shareOf(sign);
             }
-            out.endBits();
         }
 
         private void putSign(int form, int lane, int sign, Shares shares) {
